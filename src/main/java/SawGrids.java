@@ -85,6 +85,7 @@ public final class SawGrids {
     }
 
     public int run() {
+        log.sumUp();
         long turned = bench.plan(TURNED);
         long lying = bench.plan(LYING);
         if (turned > lying) {
@@ -142,6 +143,7 @@ public final class SawGrids {
         if (!isTurn(turn)) {
             throw new IndexOutOfBoundsException("no such turn");
         }
+        log.sumUp();
         return Bench.valueOf(bench.plan(turn));
     }
 
@@ -162,6 +164,7 @@ public final class SawGrids {
         if (!sizes.has(size) || !isTurn(turn)) {
             throw new IndexOutOfBoundsException("no such size or turn");
         }
+        log.sumUp();
         return boards.fits(size, x, y, turn);
     }
 
@@ -178,6 +181,7 @@ public final class SawGrids {
     }
 
     public int wood() {
+        log.sumUp();
         return log.woodCells();
     }
 
@@ -227,8 +231,8 @@ public final class SawGrids {
         private final boolean[] inAtEnd;
         private final int[] lossOf;
         // What the cells above and to the left of a corner add up to, so that a board's sums take four looks.
-        private final int[] bareBefore;
-        private final int[] lossBefore;
+        final int[] bareBefore;
+        final int[] lossBefore;
         private boolean summed;
 
         Log(int side) {
@@ -259,34 +263,22 @@ public final class SawGrids {
             return isNew;
         }
 
-        boolean isOnGrid(int x, int y, int alongX, int alongY) {
-            return isWithin(x, 0, side - alongX) && isWithin(y, 0, side - alongY);
-        }
-
         int woodCells() {
-            return side * side - bareIn(0, 0, side, side);
+            return side * side - sumIn(bareBefore, 0, 0, side, side);
         }
 
-        int bareIn(int x, int y, int alongX, int alongY) {
-            sumUp();
-            return sumIn(bareBefore, x, y, alongX, alongY);
-        }
-
-        int lossIn(int x, int y, int alongX, int alongY) {
-            sumUp();
-            return sumIn(lossBefore, x, y, alongX, alongY);
-        }
-
-        private int sumIn(int[] before, int x, int y, int alongX, int alongY) {
-            if (!isOnGrid(x, y, alongX, alongY)) {
-                return 0;
+        /** NONE if not all of it is on the grid. */
+        int sumIn(int[] before, int x, int y, int alongX, int alongY) {
+            if (x < 0 || y < 0 || x > side - alongX || y > side - alongY) {
+                return NONE;
             }
             int top = y * (side + 1) + x;
             int bottom = (y + alongY) * (side + 1) + x;
             return before[bottom + alongX] - before[bottom] - before[top + alongX] + before[top];
         }
 
-        private void sumUp() {
+        /** Calls that look at sums begin with this: what is told only makes the sums stale, as it comes often. */
+        void sumUp() {
             if (summed) {
                 return;
             }
@@ -364,16 +356,16 @@ public final class SawGrids {
         }
 
         boolean fits(int size, int x, int y, int turn) {
-            return log.isOnGrid(x, y, sizes.alongX(size, turn), sizes.alongY(size, turn))
-                && bareAt(size, x, y, turn) <= sizes.waneOf[size];
+            int bare = log.sumIn(log.bareBefore, x, y, sizes.alongX(size, turn), sizes.alongY(size, turn));
+            return bare != NONE && bare <= sizes.waneOf[size];
         }
 
         int bareAt(int size, int x, int y, int turn) {
-            return log.bareIn(x, y, sizes.alongX(size, turn), sizes.alongY(size, turn));
+            return log.sumIn(log.bareBefore, x, y, sizes.alongX(size, turn), sizes.alongY(size, turn));
         }
 
         int valueAt(int size, int x, int y, int turn) {
-            int loss = log.lossIn(x, y, sizes.alongX(size, turn), sizes.alongY(size, turn));
+            int loss = log.sumIn(log.lossBefore, x, y, sizes.alongX(size, turn), sizes.alongY(size, turn));
             return Math.max(0, sizes.worthOf[size] - loss);
         }
     }

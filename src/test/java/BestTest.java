@@ -31,12 +31,14 @@ public final class BestTest {
     }
 
     public static void main(String[] args) {
+        Check.sentence("THE BEST pattern of a turn");
         int told = 0;
         for (int k = 0; k < 6000; k++) {
             Told log = tell(1 + next(4), next(3), 1 + next(3), 3);
             told += countsAsListed(log, k) ? 1 : 0;
         }
         Check.yes("logs that were listed: " + told, told > 3000);
+        Check.sentence("A PATTERN lying (turn 0)");
         for (int k = 0; k < 400; k++) {
             keepsTheRules(tell(1 + next(20), next(5), 1 + next(8), 8), k);
         }

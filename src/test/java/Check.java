@@ -1,16 +1,49 @@
-/** Counts what went wrong in one test's main. */
+/** Counts what went wrong in one test's main, sentence by sentence of the document. */
 final class Check {
     private static int asked = 0;
     private static int wrong = 0;
+    private static int sentences = 0;
+    private static int askedBefore = 0;
+    private static String sentence = "";
 
     private Check() {
+    }
+
+    /** Runs tests one by one: what one of them throws ends that one alone. */
+    static void each(Runnable... tests) {
+        for (Runnable test : tests) {
+            try {
+                test.run();
+            } catch (RuntimeException e) {
+                isWrong("the test threw " + e);
+            }
+        }
+    }
+
+    /** Begins the test of a sentence of the document, which is quoted; what goes wrong is told with it. */
+    static void sentence(String quoted) {
+        endSentence();
+        sentences++;
+        sentence = quoted;
+        askedBefore = asked;
+    }
+
+    /** A sentence's test that asks nothing would pass whatever the class does. */
+    private static void endSentence() {
+        if (sentences > 0 && asked == askedBefore) {
+            isWrong("nothing was asked");
+        }
+    }
+
+    private static void isWrong(String text) {
+        wrong++;
+        System.out.println(sentence.isEmpty() ? text : text + "  [" + sentence + "]");
     }
 
     static void same(String what, long got, long due) {
         asked++;
         if (got != due) {
-            wrong++;
-            System.out.println(what + ": got " + got + ", due is " + due);
+            isWrong(what + ": got " + got + ", due is " + due);
         }
     }
 
@@ -32,8 +65,7 @@ final class Check {
             got = e.getClass().getName();
         }
         if (!got.equals(due.getName())) {
-            wrong++;
-            System.out.println(what + ": threw " + got + ", due is " + due.getName());
+            isWrong(what + ": threw " + got + ", due is " + due.getName());
         }
     }
 
@@ -50,7 +82,8 @@ final class Check {
     }
 
     static void end(String name) {
-        System.out.println(name + ": " + asked + " asked, " + wrong + " wrong");
+        endSentence();
+        System.out.println(name + ": " + sentences + " sentences, " + asked + " asked, " + wrong + " wrong");
         if (wrong > 0 || asked == 0) {
             System.exit(1);
         }

@@ -26,6 +26,7 @@ public final class FaceTest {
     };
 
     public static void main(String[] args) {
+        Check.sentence("The public face");
         Check.same("the class", SawGrids.class.getModifiers(), Modifier.PUBLIC | Modifier.FINAL);
         TreeSet<String> face = new TreeSet<>();
         TreeSet<String> open = new TreeSet<>();
